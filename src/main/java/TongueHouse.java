@@ -33,6 +33,10 @@ public final class TongueHouse {
     private static final int TERM_ROOM = 40;
     private static final int MEND_WORDS = 12;
     private static final int MEND_LOOKS = 1000;
+    private static final int CHANGE_COST = 16;
+    private static final int CHANGE_PLACE = 11;
+    private static final int CHANGE_PLACE_MASK = 31;
+    private static final int CHANGE_FORM_MASK = 2047;
 
     // What a VALUE takes of the packed VALUES of a PHRASE; the first FEATURE stands highest, so that numbers compare as rows do.
     private static final int VALUE_BITS = 3;
@@ -60,7 +64,8 @@ public final class TongueHouse {
     private final byte[][] candidates = new byte[MOST_READINGS][MOST_SAID_BYTES];
     private final int[] candidateSize = new int[MOST_READINGS];
     private int candidateCount;
-    private int looks;
+    private final int[] same = new int[MOST_WORDS * MOST_CELLS];
+    private final int[] changes = new int[MEND_LOOKS];
 
     public TongueHouse() {
     }
@@ -86,7 +91,16 @@ public final class TongueHouse {
     }
 
     public int module() {
-        int done = reader.readModule();
+        reader.begin();
+        int done = 0;
+        while (done < Text.ROOM && tape.type != Text.END) {
+            if (!reader.readStatement()) {
+                store.restore();
+                tape.size = 0;
+                return -1 - reader.where;
+            }
+            done++;
+        }
         tape.size = 0;
         return done;
     }
@@ -133,6 +147,7 @@ public final class TongueHouse {
 
     public int analyse(int tongue) throws IllegalArgumentException {
         Tongue t = tongueAt(tongue);
+        t.forms.build(t);
         int n = finder.noteAnalyses(tongue, t, tape);
         tape.size = 0;
         return n;
@@ -166,6 +181,7 @@ public final class TongueHouse {
 
     public int guess(int tongue) throws IllegalArgumentException {
         Tongue t = tongueAt(tongue);
+        t.forms.build(t);
         int n = finder.noteGuesses(t, tape);
         tape.size = 0;
         return n;
@@ -255,6 +271,7 @@ public final class TongueHouse {
         if (plantedSize[place] == 0 || i < 0) {
             return MISSING;
         }
+        t.forms.build(t);
         if (i >= sayer.findOptions(t, planted[place], plantedSize[place])) {
             return MISSING;
         }
@@ -289,6 +306,7 @@ public final class TongueHouse {
         if (answer < 0) {
             return answer;
         }
+        o.forms.build(o);
         for (int i = 0; i < MOST_READINGS; i++) {
             int n = ranking.spell(i, planted[PLACES]);
             if (n > 0 && sayer.findOptions(o, planted[PLACES], n) > 0) {
@@ -321,6 +339,7 @@ public final class TongueHouse {
 
     public int ask(int tongue) throws IllegalArgumentException {
         Tongue t = tongueAt(tongue);
+        t.forms.build(t);
         int n = finder.search(tongue, t, tape);
         tape.size = 0;
         return n;
@@ -341,19 +360,30 @@ public final class TongueHouse {
         chart.forget();
         boolean fits = tape.split() && tape.words <= MEND_WORDS;
         base.size = 0;
-        if (fits) {
-            base.putWords(tape);
-            fits = base.split();
-        }
+        base.putWords(tape);
         tape.size = 0;
-        int answer = fits ? cheapestMend(t, kind) : NO_TEXT;
-        if (answer < 0) {
-            chart.forget();
-            return answer;
+        if (!base.split() || !fits) {
+            return NO_TEXT;
         }
-        out.putWords(answer == 0 ? base : draft);
+        t.forms.build(t);
+        chart.forgetTries();
+        Text mended = base;
+        int cost = 0;
+        int found = chart.fill(t, base, kind);
+        int n = found == 0 ? listChanges(t) : 0;
+        for (int i = 0; i < n && found == 0; i++) {
+            mended = draft;
+            cost = changes[i] >> CHANGE_COST;
+            writeChange(t, changes[i]);
+            found = draft.split() ? chart.fill(t, draft, kind) : 0;
+        }
+        if (found <= 0) {
+            chart.forget();
+            return MISSING;
+        }
+        out.putWords(mended);
         ranking.open(t);
-        return answer;
+        return cost;
     }
 
     public int count(int tongue, int what) throws IllegalArgumentException {
@@ -400,7 +430,9 @@ public final class TongueHouse {
         if (!tape.split()) {
             return NO_TEXT;
         }
-        int answer = chart.fillAll(t, tape, kind);
+        t.forms.build(t);
+        chart.forgetTries();
+        int answer = chart.fill(t, tape, kind);
         if (answer == 1) {
             ranking.open(t);
         }
@@ -428,86 +460,43 @@ public final class TongueHouse {
         candidateCount++;
     }
 
-    private int cheapestMend(Tongue t, int kind) {
-        looks = 0;
-        int found = chart.fillAll(t, base, kind);
-        if (found != 0) {
-            return found < 0 ? MISSING : 0;
-        }
-        found = mendForms(t, kind);
-        if (found != 0) {
-            return found;
-        }
-        found = mendNeighbours(t, kind);
-        if (found != 0) {
-            return found;
-        }
-        found = mendByLeavingOut(t, kind);
-        return found != 0 ? found : MISSING;
-    }
-
-    // Each of the three ways of mending answers its price, 0 if it found nothing, or below 0 if all is over.
-    private int mendForms(Tongue t, int kind) {
-        Forms forms = t.forms;
+    /** The changed sentences to look at, in their order, each as its price, its place and a form in one number: how many. */
+    private int listChanges(Tongue t) {
+        int n = 0;
         for (int place = 0; place < base.words; place++) {
-            int from = base.start[place];
-            int size = base.len[place];
-            for (int id = forms.first(base.bytes, from, size); id >= 0; id = forms.after(id, base.bytes, from, size)) {
-                int row = id / MOST_CELLS * MOST_CELLS;
-                int cells = t.cellsOf(id / MOST_CELLS);
-                for (int c = 0; c < cells; c++) {
-                    if (forms.size[row + c] <= 0 || forms.isForm(row + c, base.bytes, from, size)) {
-                        continue;
-                    }
-                    draft.size = 0;
-                    draft.putWordsBetween(base, 0, place);
-                    draft.putSpaced(forms.text, (row + c) * MOST_LETTERS, forms.size[row + c]);
-                    draft.putWordsBetween(base, place + 1, base.words);
-                    int found = lookAtDraft(t, kind, 1);
-                    if (found != 0) {
-                        return found;
+            int found = t.forms.findSame(base.bytes, base.start[place], base.len[place], same);
+            for (int i = 0; i < found; i++) {
+                int first = same[i] / MOST_CELLS * MOST_CELLS;
+                int end = first + t.cellsOf(same[i] / MOST_CELLS);
+                for (int id = first; id < end && n < MEND_LOOKS; id++) {
+                    if (t.forms.size[id] > 0 && !t.forms.isForm(id, base.bytes, base.start[place], base.len[place])) {
+                        changes[n++] = 1 << CHANGE_COST | place << CHANGE_PLACE | id;
                     }
                 }
             }
         }
-        return 0;
+        for (int place = 0; place + 1 < base.words && n < MEND_LOOKS; place++) {
+            changes[n++] = 2 << CHANGE_COST | place << CHANGE_PLACE;
+        }
+        for (int place = 0; place < base.words && base.words > 1 && n < MEND_LOOKS; place++) {
+            changes[n++] = 3 << CHANGE_COST | place << CHANGE_PLACE;
+        }
+        return n;
     }
 
-    private int mendNeighbours(Tongue t, int kind) {
-        for (int place = 0; place + 1 < base.words; place++) {
-            draft.size = 0;
-            draft.putWordsBetween(base, 0, place);
+    private void writeChange(Tongue t, int change) {
+        int cost = change >> CHANGE_COST;
+        int place = change >> CHANGE_PLACE & CHANGE_PLACE_MASK;
+        int id = change & CHANGE_FORM_MASK;
+        draft.size = 0;
+        draft.putWordsBetween(base, 0, place);
+        if (cost == 1) {
+            draft.putSpaced(t.forms.text, id * MOST_LETTERS, t.forms.size[id]);
+        } else if (cost == 2) {
             draft.putWordsBetween(base, place + 1, place + 2);
             draft.putWordsBetween(base, place, place + 1);
-            draft.putWordsBetween(base, place + 2, base.words);
-            int found = lookAtDraft(t, kind, 2);
-            if (found != 0) {
-                return found;
-            }
         }
-        return 0;
-    }
-
-    private int mendByLeavingOut(Tongue t, int kind) {
-        for (int place = 0; place < base.words && base.words > 1; place++) {
-            draft.size = 0;
-            draft.putWordsBetween(base, 0, place);
-            draft.putWordsBetween(base, place + 1, base.words);
-            int found = lookAtDraft(t, kind, 3);
-            if (found != 0) {
-                return found;
-            }
-        }
-        return 0;
-    }
-
-    private int lookAtDraft(Tongue t, int kind, int cost) {
-        looks++;
-        if (looks > MEND_LOOKS || !draft.split()) {
-            return MISSING;
-        }
-        int found = chart.fillOn(t, draft, kind);
-        return found < 0 ? MISSING : found * cost;
+        draft.putWordsBetween(base, cost == 2 ? place + 2 : place + 1, base.words);
     }
 
     /** Bytes that can be read as TOKENS, one at hand at a time, or as words. */
@@ -891,6 +880,7 @@ public final class TongueHouse {
 
     /** A LIN: how a TONGUE says a FUN with arguments. A slot is an argument's place among the ITEMS that are arguments. */
     private static final class Lin {
+        int number;
         int fun;
         int rank;
         int cost;
@@ -1143,23 +1133,17 @@ public final class TongueHouse {
             return (h ^ h >> 9) & HEADS - 1;
         }
 
-        int first(byte[] b, int at, int n) {
-            return sameFrom(head[hash(b, at, n)], b, at, n);
-        }
-
-        int after(int id, byte[] b, int at, int n) {
-            return sameFrom(chain[id], b, at, n);
-        }
-
-        private int sameFrom(int id, byte[] b, int at, int n) {
-            int i = id;
-            for (int guard = 0; guard < MOST_WORDS * MOST_CELLS && i >= 0; guard++) {
-                if (isForm(i, b, at, n)) {
-                    return i;
+        /** The forms that are this word, by number: how many. */
+        int findSame(byte[] b, int at, int n, int[] into) {
+            int found = 0;
+            int id = head[hash(b, at, n)];
+            for (int guard = 0; guard < chain.length && id >= 0; guard++) {
+                if (size[id] == n && endsWith(id, b, at, n) && found < into.length) {
+                    into[found++] = id;
                 }
-                i = chain[i];
+                id = chain[id];
             }
-            return MISSING;
+            return found;
         }
 
         boolean isForm(int id, byte[] b, int at, int n) {
@@ -1328,7 +1312,7 @@ public final class TongueHouse {
         private final Text tape;
         private Tongue tongue;
         int rule;
-        private int where;
+        int where;
         private int first;
         private boolean full;
         private int values;
@@ -1350,24 +1334,15 @@ public final class TongueHouse {
             this.tape = tape;
         }
 
-        int readModule() {
+        void begin() {
             rule = 0;
             full = false;
             store.mark();
             tape.rewind();
-            int done = 0;
-            while (done < Text.ROOM && tape.type != Text.END) {
-                first = tape.at;
-                if (!statement()) {
-                    store.restore();
-                    return -1 - where;
-                }
-                done++;
-            }
-            return done;
         }
 
-        private boolean statement() {
+        boolean readStatement() {
+            first = tape.at;
             if (tape.type != Text.NAME) {
                 return wrong(CANT_STAND, first);
             }
@@ -1391,12 +1366,8 @@ public final class TongueHouse {
             if (word == FACT) {
                 return readFact();
             }
-            return ofTongue(word);
-        }
-
-        private boolean ofTongue(long word) {
-            boolean known = word == FEATURE || word == LETTERS || word == SOUND || word == PATTERN || word == WORD || word == LIN;
-            if (!known) {
+            boolean ofTongue = word == FEATURE || word == LETTERS || word == SOUND || word == PATTERN || word == WORD || word == LIN;
+            if (!ofTongue) {
                 return wrong(CANT_STAND, first);
             }
             tongue = store.current >= 0 ? store.tongues[store.current] : null;
@@ -1475,18 +1446,21 @@ public final class TongueHouse {
             return true;
         }
 
-        /** The VALUE at hand comes to the VALUES that are read. */
-        private boolean readValue() {
-            if (!needKnown(tongue.values)) {
-                return false;
+        /** All NAMES at hand are VALUES, no two of one FEATURE. Behind the first the word cost may stand, if it may there at all. */
+        private boolean readValues(boolean costMayStand) {
+            values = 0;
+            for (int i = 0; i <= MOST_FEATURES && tape.type == Text.NAME; i++) {
+                if (costMayStand && i > 0 && tape.name == COST) {
+                    return true;
+                }
+                int v = tongue.values.find(tape.name);
+                int shift = v < 0 ? 0 : Tongue.shiftOf(tongue.valueFeature[v]);
+                if (v < 0 || (values >> shift & VALUE_MASK) != 0) {
+                    return wrong(NONE_SUCH, tape.at);
+                }
+                values |= tongue.valueRank[v] << shift;
+                tape.advance();
             }
-            int v = tongue.values.find(tape.name);
-            int shift = Tongue.shiftOf(tongue.valueFeature[v]);
-            if ((values >> shift & VALUE_MASK) != 0) {
-                return wrong(NONE_SUCH, tape.at);
-            }
-            values |= tongue.valueRank[v] << shift;
-            tape.advance();
             return true;
         }
 
@@ -1790,13 +1764,7 @@ public final class TongueHouse {
 
         /** A CELL of a PATTERN; its FORM is kept as bytes, a stem as its number, which no letter is. */
         private boolean readCell() {
-            values = 0;
-            for (int i = 0; i <= MOST_FEATURES && tape.type == Text.NAME; i++) {
-                if (!readValue()) {
-                    return false;
-                }
-            }
-            if (!take('=')) {
+            if (!readValues(false) || !take('=')) {
                 return false;
             }
             row[0] = values;
@@ -1894,16 +1862,7 @@ public final class TongueHouse {
                 return true;
             }
             tape.advance();
-            if (!readValue()) {
-                return false;
-            }
-            // Behind a VALUE the word cost may stand, and is no VALUE then.
-            for (int i = 0; i <= MOST_FEATURES && tape.type == Text.NAME && !isWord(COST); i++) {
-                if (!readValue()) {
-                    return false;
-                }
-            }
-            return true;
+            return need(Text.NAME) && readValues(true);
         }
 
         private boolean readLin() {
@@ -1937,6 +1896,7 @@ public final class TongueHouse {
             if (full || lin.rank >= MOST_LINS || tongue.linCount >= tongue.lins.length) {
                 return wrong(TOO_MANY, first);
             }
+            lin.number = tongue.linCount;
             tongue.lins[tongue.linCount++] = lin;
             return true;
         }
@@ -1949,26 +1909,24 @@ public final class TongueHouse {
                 if (lin.size == MOST_ITEMS) {
                     return wrong(NONE_SUCH, tape.at);
                 }
-                if (!(tape.type == Text.LETTERS ? readLettersItem(lin) : readArgumentItem(lin))) {
-                    return false;
+                if (tape.type == Text.NUMBER) {
+                    if (!readArgument(lin)) {
+                        return false;
+                    }
+                } else if (tape.lettersSize() < 1) {
+                    return wrong(NONE_SUCH, tape.at);
+                } else {
+                    lin.arg[lin.size] = MISSING;
+                    lin.from[lin.size] = keepLetters();
+                    lin.length[lin.size] = tape.lettersSize();
+                    tape.advance();
                 }
                 lin.size++;
             }
             return true;
         }
 
-        private boolean readLettersItem(Lin lin) {
-            if (tape.lettersSize() < 1) {
-                return wrong(NONE_SUCH, tape.at);
-            }
-            lin.arg[lin.size] = MISSING;
-            lin.from[lin.size] = keepLetters();
-            lin.length[lin.size] = tape.lettersSize();
-            tape.advance();
-            return true;
-        }
-
-        private boolean readArgumentItem(Lin lin) {
+        private boolean readArgument(Lin lin) {
             int a = tape.value - 1;
             if (a < 0 || a >= store.funArity[lin.fun] || lin.slotOf[a] >= 0) {
                 return wrong(NONE_SUCH, tape.at);
@@ -1977,15 +1935,7 @@ public final class TongueHouse {
             values = 0;
             if (tape.type == '[') {
                 tape.advance();
-                if (!readValue()) {
-                    return false;
-                }
-                for (int i = 0; i <= MOST_FEATURES && tape.type == Text.NAME; i++) {
-                    if (!readValue()) {
-                        return false;
-                    }
-                }
-                if (!take(']')) {
+                if (!need(Text.NAME) || !readValues(false) || !take(']')) {
                     return false;
                 }
             }
@@ -2245,7 +2195,7 @@ public final class TongueHouse {
         private Text text;
         private final int[] kindLins = new int[MOST_KINDS + 1];
         private final int[] linOrder = new int[MOST_FUNS * MOST_LINS];
-        private int linAt;
+        private final int[] same = new int[MOST_WORDS * MOST_CELLS];
         private int spanFirst;
         private int spanEnd;
         private final int[] chosen = new int[MOST_ARGS];
@@ -2261,19 +2211,19 @@ public final class TongueHouse {
             ways = 0;
         }
 
-        /** 1 if there is a NODE of the KIND over all words, 0 if not, -1 if there is too much of something. */
-        int fillAll(Tongue t, Text sentence, int kind) {
+        void forgetTries() {
             tries = 0;
-            return fillOn(t, sentence, kind);
         }
 
-        /** As fillAll, but TRIES of the earlier parses count, too. */
-        int fillOn(Tongue t, Text sentence, int kind) {
+        /**
+         * 1 if there is a NODE of the KIND over all words, 0 if not, -1 if there is too much of something; TRIES of earlier
+         * sentences count until they are forgotten.
+         */
+        int fill(Tongue t, Text sentence, int kind) {
             tongue = t;
             text = sentence;
             over = false;
             forget();
-            t.forms.build(t);
             orderLins();
             int n = sentence.words;
             for (int size = 1; size <= n && !over; size++) {
@@ -2315,9 +2265,9 @@ public final class TongueHouse {
                 layWord(at, kind);
             }
             for (int i = kindLins[kind]; i < kindLins[kind + 1] && !over; i++) {
-                linAt = linOrder[i];
-                if (tongue.lins[linAt].size <= size) {
-                    lay(tongue.lins[linAt], 0, at, 0);
+                Lin lin = tongue.lins[linOrder[i]];
+                if (lin.size <= size) {
+                    lay(lin, 0, at, 0);
                 }
             }
             int span = spanAt(at, size, kind);
@@ -2326,12 +2276,10 @@ public final class TongueHouse {
         }
 
         private void layWord(int at, int kind) {
-            Forms forms = tongue.forms;
-            int from = text.start[at];
-            int size = text.len[at];
-            for (int id = forms.first(text.bytes, from, size); id >= 0; id = forms.after(id, text.bytes, from, size)) {
-                if (store.funKind[tongue.wordFun(id / MOST_CELLS)] == kind) {
-                    putWay(id, tongue.formValues(id), 0);
+            int n = tongue.forms.findSame(text.bytes, text.start[at], text.len[at], same);
+            for (int i = 0; i < n && !over; i++) {
+                if (store.funKind[tongue.wordFun(same[i] / MOST_CELLS)] == kind) {
+                    putWay(same[i], tongue.formValues(same[i]), 0);
                 }
             }
         }
@@ -2341,7 +2289,7 @@ public final class TongueHouse {
             if (item >= lin.size) {
                 int values = lin.unite(chosenValues, work);
                 if (values >= 0) {
-                    putWay(-1 - linAt, values, slot);
+                    putWay(-1 - lin.number, values, slot);
                 }
                 return;
             }
@@ -2442,7 +2390,9 @@ public final class TongueHouse {
             tongue = t;
             isOpen = true;
             ranked = false;
-            Arrays.fill(barred, false);
+            for (int i = 0; i < MOST_FUNS; i++) {
+                barred[i] = false;
+            }
         }
 
         void setBarred(int fun, boolean on) {
@@ -2473,7 +2423,9 @@ public final class TongueHouse {
             if (!isOpen) {
                 return 0;
             }
-            Arrays.fill(treeCount, 0, chart.nodes, 0L);
+            for (int i = 0; i < chart.nodes; i++) {
+                treeCount[i] = 0;
+            }
             for (int way = 0; way < chart.ways; way++) {
                 if (!barred[funOf(way)]) {
                     long product = 1;
@@ -2549,8 +2501,10 @@ public final class TongueHouse {
 
         /** Only WAYS that a TREE of the whole can have come to the order. */
         private void reach() {
-            Arrays.fill(reached, 0, chart.nodes, false);
-            Arrays.fill(listSize, 0, chart.nodes, 0);
+            for (int i = 0; i < chart.nodes; i++) {
+                reached[i] = false;
+                listSize[i] = 0;
+            }
             int first = chart.firstNode[chart.root];
             for (int i = first; i < first + chart.nodeCount[chart.root]; i++) {
                 reached[i] = true;
@@ -2701,7 +2655,6 @@ public final class TongueHouse {
         private final int[] rule = new int[TREE_ROOM * MOST_OPTIONS];
         private final int[] picks = new int[TREE_ROOM * MOST_OPTIONS];
         private int at;
-        private int linAt;
         private final int[] picked = new int[MOST_ARGS];
         private final int[] work = new int[MOST_ARGS];
         private final int[] openEntry = new int[TREE_ROOM];
@@ -2715,7 +2668,6 @@ public final class TongueHouse {
         int findOptions(Tongue t, int[] funs, int size) {
             tongue = t;
             tree = funs;
-            t.forms.build(t);
             store.findChildren(funs, size, child);
             for (at = size - 1; at >= 0; at--) {
                 options[at] = 0;
@@ -2744,8 +2696,8 @@ public final class TongueHouse {
         }
 
         private void pickLins(int fun) {
-            for (linAt = 0; linAt < tongue.linCount; linAt++) {
-                Lin lin = tongue.lins[linAt];
+            for (int n = 0; n < tongue.linCount; n++) {
+                Lin lin = tongue.lins[n];
                 if (lin.fun == fun) {
                     int size = lin.size - 1;
                     for (int i = 0; i < lin.size; i++) {
@@ -2765,7 +2717,7 @@ public final class TongueHouse {
             if (slot >= lin.slots) {
                 int whole = lin.unite(picked, work);
                 if (whole >= 0) {
-                    putOption(-1 - linAt, price, whole, size, chosen);
+                    putOption(-1 - lin.number, price, whole, size, chosen);
                 }
                 return;
             }
@@ -3221,6 +3173,7 @@ public final class TongueHouse {
         private final byte[][] sentence = new byte[ROOM][];
         private final int[] sentenceTongue = new int[ROOM];
         private final Text words = new Text();
+        private final int[] same = new int[MOST_WORDS * MOST_CELLS];
         private final int[] wordKinds = new int[MOST_SENTENCE];
         private int hits;
         private final int[] hitSentence = new int[ROOM * MOST_SENTENCE];
@@ -3239,12 +3192,7 @@ public final class TongueHouse {
                 return NO_TEXT;
             }
             analysisTongue = number;
-            t.forms.build(t);
-            for (int id = t.forms.first(tape.bytes, 0, tape.size); id >= 0; id = t.forms.after(id, tape.bytes, 0, tape.size)) {
-                if (analyses < analysed.length) {
-                    analysed[analyses++] = id;
-                }
-            }
+            analyses = t.forms.findSame(tape.bytes, 0, tape.size, analysed);
             return analyses;
         }
 
@@ -3275,7 +3223,6 @@ public final class TongueHouse {
             if (!tape.isWord()) {
                 return NO_TEXT;
             }
-            t.forms.build(t);
             for (int n = Math.min(ENDING_ROOM, tape.size); n > 0 && guessTotal == 0; n--) {
                 guessEnding = n;
                 countEndings(t, tape, n);
@@ -3336,7 +3283,6 @@ public final class TongueHouse {
             if (!readQuestion(tape)) {
                 return NO_TEXT;
             }
-            t.forms.build(t);
             for (int i = 0; i < collected; i++) {
                 if (sentenceTongue[i] == number && sentence[i] != null) {
                     words.size = 0;
@@ -3351,7 +3297,7 @@ public final class TongueHouse {
         private boolean readQuestion(Text tape) {
             asked = 0;
             tape.rewind();
-            while (tape.type != Text.END) {
+            for (int i = 0; i <= QUESTION_ROOM && tape.type != Text.END; i++) {
                 int kind = tape.type == Text.NAME ? store.kinds.find(tape.name) : MISSING;
                 boolean fits = tape.type == '*' || tape.type == Text.LETTERS || kind >= 0;
                 if (!fits || asked == QUESTION_ROOM) {
@@ -3386,10 +3332,9 @@ public final class TongueHouse {
         /** The KINDS that a word of the sentence has ANALYSES of, one bit each. */
         private int kindsOf(Tongue t, int i) {
             int kinds = 0;
-            int from = words.start[i];
-            int size = words.len[i];
-            for (int id = t.forms.first(words.bytes, from, size); id >= 0; id = t.forms.after(id, words.bytes, from, size)) {
-                kinds |= 1 << store.funKind[t.wordFun(id / MOST_CELLS)];
+            int n = t.forms.findSame(words.bytes, words.start[i], words.len[i], same);
+            for (int k = 0; k < n; k++) {
+                kinds |= 1 << store.funKind[t.wordFun(same[k] / MOST_CELLS)];
             }
             return kinds;
         }
