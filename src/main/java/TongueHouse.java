@@ -590,10 +590,6 @@ public final class TongueHouse {
             return c >= 'a' && c <= 'z';
         }
 
-        static boolean isDigit(int c) {
-            return c >= '0' && c <= '9';
-        }
-
         static boolean isSign(int c) {
             switch (c) {
                 case ';': case '=': case '+': case '>': case '/': case '_': case '#': case '(': case ')': case ',':
@@ -657,7 +653,7 @@ public final class TongueHouse {
             int c = bytes[p];
             if (isLetter(c)) {
                 takeName();
-            } else if (isDigit(c)) {
+            } else if (c >= '0' && c <= '9') {
                 takeNumber();
             } else if (c == '\'') {
                 takeLetters();
@@ -667,12 +663,16 @@ public final class TongueHouse {
             }
         }
 
+        // The longest TOKEN that can stand here; each of these three goes on from where it begins.
         private void takeName() {
             int p = at;
             name = 0;
-            while (p < size && p < at + 8 && (isLetter(bytes[p]) || isDigit(bytes[p]))) {
-                name = name << 8 | bytes[p];
-                p++;
+            for (; p < size && p < at + 8; p++) {
+                int c = bytes[p];
+                if ((c < 'a' || c > 'z') && (c < '0' || c > '9')) {
+                    break;
+                }
+                name = name << 8 | c;
             }
             type = NAME;
             next = p;
@@ -681,9 +681,8 @@ public final class TongueHouse {
         private void takeNumber() {
             int p = at;
             value = 0;
-            while (p < size && p < at + 6 && isDigit(bytes[p])) {
+            for (; p < size && p < at + 6 && bytes[p] >= '0' && bytes[p] <= '9'; p++) {
                 value = value * 10 + bytes[p] - '0';
-                p++;
             }
             type = NUMBER;
             next = p;
@@ -691,7 +690,7 @@ public final class TongueHouse {
 
         private void takeLetters() {
             int p = at + 1;
-            while (p < size && p < at + 13 && isLetter(bytes[p])) {
+            while (p < size && p < at + 13 && bytes[p] >= 'a' && bytes[p] <= 'z') {
                 p++;
             }
             boolean closed = p < size && bytes[p] == '\'';
@@ -768,11 +767,13 @@ public final class TongueHouse {
         final int[] factThings = new int[MOST_FACTS * 2];
         final byte[] pool = new byte[POOL_ROOM];
         int poolSize;
+        boolean isFull;
         final int[] marks = new int[HOUSE_MARKS + MOST_TONGUES * Tongue.MARKS];
         final int[] markedMeans = new int[MOST_FUNS];
         private final int[] stack = new int[TREE_ROOM];
 
         void mark() {
+            isFull = false;
             marks[0] = kinds.size;
             marks[1] = funs.size;
             marks[2] = things.size;
@@ -800,12 +801,12 @@ public final class TongueHouse {
             System.arraycopy(markedMeans, 0, meanSize, 0, MOST_FUNS);
         }
 
-        boolean keepByte(int b) {
-            if (poolSize >= POOL_ROOM) {
-                return false;
+        void keepByte(int b) {
+            if (poolSize < POOL_ROOM) {
+                pool[poolSize++] = (byte) b;
+            } else {
+                isFull = true;
             }
-            pool[poolSize++] = (byte) b;
-            return true;
         }
 
         void makeTongue(long name) {
@@ -1314,7 +1315,6 @@ public final class TongueHouse {
         int rule;
         int where;
         private int first;
-        private boolean full;
         private int values;
         private int cost;
         private int cells;
@@ -1336,7 +1336,6 @@ public final class TongueHouse {
 
         void begin() {
             rule = 0;
-            full = false;
             store.mark();
             tape.rewind();
         }
@@ -1366,8 +1365,8 @@ public final class TongueHouse {
             if (word == FACT) {
                 return readFact();
             }
-            boolean ofTongue = word == FEATURE || word == LETTERS || word == SOUND || word == PATTERN || word == WORD || word == LIN;
-            if (!ofTongue) {
+            boolean ofSounds = word == FEATURE || word == LETTERS || word == SOUND;
+            if (!ofSounds && word != PATTERN && word != WORD && word != LIN) {
                 return wrong(CANT_STAND, first);
             }
             tongue = store.current >= 0 ? store.tongues[store.current] : null;
@@ -1426,7 +1425,7 @@ public final class TongueHouse {
             if (!take(';')) {
                 return false;
             }
-            return !tooMany && !full || wrong(TOO_MANY, first);
+            return !tooMany && !store.isFull || wrong(TOO_MANY, first);
         }
 
         private boolean readCost() {
@@ -1446,7 +1445,7 @@ public final class TongueHouse {
             return true;
         }
 
-        /** All NAMES at hand are VALUES, no two of one FEATURE. Behind the first the word cost may stand, if it may there at all. */
+        /** All NAMES at hand are VALUES, no two of one FEATURE; behind the first one the word cost may stand, where it may at all. */
         private boolean readValues(boolean costMayStand) {
             values = 0;
             for (int i = 0; i <= MOST_FEATURES && tape.type == Text.NAME; i++) {
@@ -1464,18 +1463,12 @@ public final class TongueHouse {
             return true;
         }
 
-        private void keepByte(int b) {
-            if (!store.keepByte(b)) {
-                full = true;
-            }
-        }
-
         /** The LETTERS at hand come to the pool: where they begin. */
         private int keepLetters() {
             int begin = store.poolSize;
             int n = tape.lettersSize();
             for (int i = 1; i <= n; i++) {
-                keepByte(tape.bytes[tape.at + i]);
+                store.keepByte(tape.bytes[tape.at + i]);
             }
             return begin;
         }
@@ -1796,7 +1789,7 @@ public final class TongueHouse {
             } else if (tape.value < 1 || tape.value > 3) {
                 return wrong(NONE_SUCH, tape.at);
             } else {
-                keepByte(tape.value);
+                store.keepByte(tape.value);
             }
             tape.advance();
             return true;
@@ -1893,7 +1886,7 @@ public final class TongueHouse {
                 return wrong(BAD_LIN, funAt);
             }
             lin.rank = tongue.linsOf(lin.fun);
-            if (full || lin.rank >= MOST_LINS || tongue.linCount >= tongue.lins.length) {
+            if (store.isFull || lin.rank >= MOST_LINS || tongue.linCount >= tongue.lins.length) {
                 return wrong(TOO_MANY, first);
             }
             lin.number = tongue.linCount;
@@ -2128,7 +2121,7 @@ public final class TongueHouse {
             int depth = 0;
             while (size < TREE_ROOM && tape.type == Text.NAME) {
                 int fun = store.funs.find(tape.name);
-                if (fun < 0 || depth > 0 && store.funKind[fun] != store.funArgs[opened[depth - 1] * MOST_ARGS + seen[depth - 1]]) {
+                if (fun < 0 || depth > 0 && store.funKind[fun] != kindWanted(depth - 1)) {
                     return -1 - tape.at;
                 }
                 into[size++] = fun;
@@ -2149,6 +2142,10 @@ public final class TongueHouse {
                 }
             }
             return -1 - tape.at;
+        }
+
+        private int kindWanted(int open) {
+            return store.funArgs[opened[open] * MOST_ARGS + seen[open]];
         }
 
         /** What comes behind a whole argument: how many FUNS are open then, or -1 if the TOKEN at hand is wrong. */
@@ -3074,13 +3071,11 @@ public final class TongueHouse {
             }
             int a = thingAt(one);
             int b = args == 2 ? thingAt(two) : MISSING;
-            if (a < 0 || args == 2 && b < 0) {
+            if (a < 0 || b < 0 && (args == 2 || word == IS)) {
                 return stray();
             }
-            if (word == IS) {
-                return args == 2 ? a == b ? 1 : 0 : stray();
-            }
-            return store.findFact(word, a, b) >= 0 ? 1 : 0;
+            boolean holds = word == IS ? a == b : store.findFact(word, a, b) >= 0;
+            return holds ? 1 : 0;
         }
 
         /** What is no formula has some value, so that all the others are still looked at. */
@@ -3121,7 +3116,7 @@ public final class TongueHouse {
             return -1;
         }
 
-        /** A part of the innermost open formula has this value: the value of the whole, or -1 if another part must be looked at. */
+        /** A part of the innermost open formula has this value: that of the whole, or -1 if another part must be looked at. */
         private int goOn(int value) {
             int i = open - 1;
             long word = openName[i];
