@@ -64,7 +64,6 @@ public final class TongueHouse {
     private final byte[][] candidates = new byte[MOST_READINGS][MOST_SAID_BYTES];
     private final int[] candidateSize = new int[MOST_READINGS];
     private int candidateCount;
-    private final int[] same = new int[MOST_WORDS * MOST_CELLS];
     private final int[] changes = new int[MEND_LOOKS];
 
     public TongueHouse() {
@@ -124,7 +123,7 @@ public final class TongueHouse {
             names = store.funs;
         } else if (what > 2) {
             Tongue t = tongueAt(tongue);
-            names = what == 3 ? t.features : what == 4 ? t.values : t.patterns;
+            names = t.namesOf(what);
         }
         long name = tape.onlyName();
         tape.size = 0;
@@ -464,12 +463,14 @@ public final class TongueHouse {
     private int listChanges(Tongue t) {
         int n = 0;
         for (int place = 0; place < base.words; place++) {
-            int found = t.forms.findSame(base.bytes, base.start[place], base.len[place], same);
+            int from = base.start[place];
+            int size = base.len[place];
+            int found = t.forms.findSame(base.bytes, from, size);
             for (int i = 0; i < found; i++) {
-                int first = same[i] / MOST_CELLS * MOST_CELLS;
-                int end = first + t.cellsOf(same[i] / MOST_CELLS);
-                for (int id = first; id < end && n < MEND_LOOKS; id++) {
-                    if (t.forms.size[id] > 0 && !t.forms.isForm(id, base.bytes, base.start[place], base.len[place])) {
+                int word = t.forms.found[i] / MOST_CELLS;
+                int end = word * MOST_CELLS + t.cellsOf(word);
+                for (int id = word * MOST_CELLS; id < end && n < MEND_LOOKS; id++) {
+                    if (t.forms.size[id] > 0 && !t.forms.isForm(id, base.bytes, from, size)) {
                         changes[n++] = 1 << CHANGE_COST | place << CHANGE_PLACE | id;
                     }
                 }
@@ -747,7 +748,8 @@ public final class TongueHouse {
     private static final class Store {
         // 512 calls bring 10240 bytes at most, and no byte of a tape is kept twice.
         static final int POOL_ROOM = 12000;
-        static final int HOUSE_MARKS = 7;
+        static final int TONGUE_MARKS = 7;
+        static final int MEAN_MARKS = TONGUE_MARKS + MOST_TONGUES * Tongue.MARKS;
 
         final Names kinds = new Names(MOST_KINDS);
         final Names funs = new Names(MOST_FUNS);
@@ -768,8 +770,7 @@ public final class TongueHouse {
         final byte[] pool = new byte[POOL_ROOM];
         int poolSize;
         boolean isFull;
-        final int[] marks = new int[HOUSE_MARKS + MOST_TONGUES * Tongue.MARKS];
-        final int[] markedMeans = new int[MOST_FUNS];
+        private final int[] marks = new int[MEAN_MARKS + MOST_FUNS];
         private final int[] stack = new int[TREE_ROOM];
 
         void mark() {
@@ -782,9 +783,9 @@ public final class TongueHouse {
             marks[5] = poolSize;
             marks[6] = current;
             for (int i = 0; i < tongueNames.size; i++) {
-                tongues[i].saveSizes(marks, HOUSE_MARKS + i * Tongue.MARKS);
+                tongues[i].saveSizes(marks, TONGUE_MARKS + i * Tongue.MARKS);
             }
-            System.arraycopy(meanSize, 0, markedMeans, 0, MOST_FUNS);
+            System.arraycopy(meanSize, 0, marks, MEAN_MARKS, MOST_FUNS);
         }
 
         void restore() {
@@ -796,9 +797,9 @@ public final class TongueHouse {
             poolSize = marks[5];
             current = marks[6];
             for (int i = 0; i < tongueNames.size; i++) {
-                tongues[i].loadSizes(marks, HOUSE_MARKS + i * Tongue.MARKS);
+                tongues[i].loadSizes(marks, TONGUE_MARKS + i * Tongue.MARKS);
             }
-            System.arraycopy(markedMeans, 0, meanSize, 0, MOST_FUNS);
+            System.arraycopy(marks, MEAN_MARKS, meanSize, 0, MOST_FUNS);
         }
 
         void keepByte(int b) {
@@ -1040,6 +1041,17 @@ public final class TongueHouse {
             }
         }
 
+        Names namesOf(int what) {
+            switch (what) {
+                case 3:
+                    return features;
+                case 4:
+                    return values;
+                default:
+                    return patterns;
+            }
+        }
+
         static int shiftOf(int feature) {
             return TOP_SHIFT - feature * VALUE_BITS;
         }
@@ -1093,6 +1105,7 @@ public final class TongueHouse {
         final int[] size = new int[MOST_WORDS * MOST_CELLS];
         final int[] chain = new int[MOST_WORDS * MOST_CELLS];
         final int[] head = new int[HEADS];
+        final int[] found = new int[MOST_WORDS * MOST_CELLS];
         byte[] from = new byte[MOST_LETTERS];
         byte[] to = new byte[MOST_LETTERS];
         int builtWords;
@@ -1134,17 +1147,17 @@ public final class TongueHouse {
             return (h ^ h >> 9) & HEADS - 1;
         }
 
-        /** The forms that are this word, by number: how many. */
-        int findSame(byte[] b, int at, int n, int[] into) {
-            int found = 0;
+        /** The forms that are this word come to found, by number: how many. */
+        int findSame(byte[] b, int at, int n) {
+            int count = 0;
             int id = head[hash(b, at, n)];
-            for (int guard = 0; guard < chain.length && id >= 0; guard++) {
-                if (size[id] == n && endsWith(id, b, at, n) && found < into.length) {
-                    into[found++] = id;
+            for (int guard = 0; guard < found.length && id >= 0; guard++) {
+                if (size[id] == n && endsWith(id, b, at, n)) {
+                    found[count++] = id;
                 }
                 id = chain[id];
             }
-            return found;
+            return count;
         }
 
         boolean isForm(int id, byte[] b, int at, int n) {
@@ -2192,7 +2205,6 @@ public final class TongueHouse {
         private Text text;
         private final int[] kindLins = new int[MOST_KINDS + 1];
         private final int[] linOrder = new int[MOST_FUNS * MOST_LINS];
-        private final int[] same = new int[MOST_WORDS * MOST_CELLS];
         private int spanFirst;
         private int spanEnd;
         private final int[] chosen = new int[MOST_ARGS];
@@ -2273,10 +2285,11 @@ public final class TongueHouse {
         }
 
         private void layWord(int at, int kind) {
-            int n = tongue.forms.findSame(text.bytes, text.start[at], text.len[at], same);
+            int n = tongue.forms.findSame(text.bytes, text.start[at], text.len[at]);
             for (int i = 0; i < n && !over; i++) {
-                if (store.funKind[tongue.wordFun(same[i] / MOST_CELLS)] == kind) {
-                    putWay(same[i], tongue.formValues(same[i]), 0);
+                int id = tongue.forms.found[i];
+                if (store.funKind[tongue.wordFun(id / MOST_CELLS)] == kind) {
+                    putWay(id, tongue.formValues(id), 0);
                 }
             }
         }
@@ -3168,7 +3181,6 @@ public final class TongueHouse {
         private final byte[][] sentence = new byte[ROOM][];
         private final int[] sentenceTongue = new int[ROOM];
         private final Text words = new Text();
-        private final int[] same = new int[MOST_WORDS * MOST_CELLS];
         private final int[] wordKinds = new int[MOST_SENTENCE];
         private int hits;
         private final int[] hitSentence = new int[ROOM * MOST_SENTENCE];
@@ -3187,7 +3199,8 @@ public final class TongueHouse {
                 return NO_TEXT;
             }
             analysisTongue = number;
-            analyses = t.forms.findSame(tape.bytes, 0, tape.size, analysed);
+            analyses = t.forms.findSame(tape.bytes, 0, tape.size);
+            System.arraycopy(t.forms.found, 0, analysed, 0, analyses);
             return analyses;
         }
 
@@ -3327,9 +3340,9 @@ public final class TongueHouse {
         /** The KINDS that a word of the sentence has ANALYSES of, one bit each. */
         private int kindsOf(Tongue t, int i) {
             int kinds = 0;
-            int n = t.forms.findSame(words.bytes, words.start[i], words.len[i], same);
+            int n = t.forms.findSame(words.bytes, words.start[i], words.len[i]);
             for (int k = 0; k < n; k++) {
-                kinds |= 1 << store.funKind[t.wordFun(same[k] / MOST_CELLS)];
+                kinds |= 1 << store.funKind[t.wordFun(t.forms.found[k] / MOST_CELLS)];
             }
             return kinds;
         }
