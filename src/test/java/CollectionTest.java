@@ -40,6 +40,9 @@ public final class CollectionTest {
         ask(c, 0, "* * * * *", 1, 0);
         ask(c, 0, "* * * * * * * *");
         ask(c, 0, "'zebra'", 3, 0);
+        ask(c, 0, "'yebra'");
+        ask(c, 0, "'zebre'");
+        ask(c, 0, "'zebr'");
         ask(c, 0, "''");
         ask(c, 0, "np");
         ask(c, 0, "*'dog'v", 0, 0, 4, 0);

@@ -10,6 +10,8 @@ public final class ForestTest {
         rankedByWay();
         rankedByValues();
         rankedByEndsThenValues();
+        rankedByWordsFirst();
+        rankedOverNodes();
         rankedByArguments();
         sixteenAreTold();
         longReadings();
@@ -223,6 +225,49 @@ public final class ForestTest {
         for (int i = 0; i < turned.length; i++) {
             reading(c, i, 0, turned[i]);
         }
+    }
+
+    private static void rankedByWordsFirst() {
+        Check c = new Check("words first");
+        c.done("kind n; kind s; fun up : n > s; fun x : > n; fun w : > s; tongue g; feature f = a b; pattern p { = 1, a = 2, b = 1 };", 8);
+        c.done("word w p 'o'; word x p 'o'; lin up = 1, give 1 f;", 3);
+        c.due("parse", parse(c, 1, "o"), 1);
+        String[] order = {"w", "up(x)", "w", "up(x)"};
+        for (int i = 0; i < order.length; i++) {
+            reading(c, i, 0, order[i]);
+        }
+        // VALUES that come late in the making of the NODES come first all the same.
+        c.done("fun t : n n > s; fun y : > n; fun z : > n; word z p 'm' has a; word y p 'm'; lin t = 1 2;", 6);
+        c.due("parse", parse(c, 1, "m m"), 1);
+        c.due("trees", c.x.trees(), 16);
+        reading(c, 0, 0, "t(y,y)");
+        reading(c, 1, 0, "t(y,z)");
+        reading(c, 2, 0, "t(y,z)");
+        reading(c, 3, 0, "t(y,y)");
+        reading(c, 4, 0, "t(z,y)");
+        reading(c, 15, 0, "t(y,y)");
+    }
+
+    private static void rankedOverNodes() {
+        Check c = new Check("ranked over nodes");
+        c.done("kind s; fun x : > s; tongue g; feature f = a1 a2 a3 a4 a5 a6; pattern p { a6 = 1, a5 = 1, a4 = 1, a3 = 1, a2 = 1, a1 = 1 };", 5);
+        for (int i = 0; i < 4; i++) {
+            c.done("fun y" + i + " : > s; word y" + i + " p 'o' cost " + (4 - i) + ";", 2);
+        }
+        c.due("parse", parse(c, 0, "o"), 1);
+        c.due("trees", c.x.trees(), 24);
+        // The dearest came first; six of each price, by their VALUES, and 16 of them in all.
+        for (int i = 0; i < 16; i++) {
+            reading(c, i, 1 + i / 6, "y" + (3 - i / 6));
+        }
+        c.due("price 16", c.x.price(16), -1);
+        c.done("word x p 'm' has a1;", 1);
+        c.done("pattern q { a1 = 1 }; pattern r { a2 = 1 }; word y0 r 'u' cost 1; word y1 q 'u' cost 2; word y2 q 'u'; word y3 r 'u' cost 2;", 6);
+        parse(c, 0, "u");
+        reading(c, 0, 0, "y2");
+        reading(c, 1, 1, "y0");
+        reading(c, 2, 2, "y1");
+        reading(c, 3, 2, "y3");
     }
 
     private static void rankedByArguments() {

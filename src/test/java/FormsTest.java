@@ -54,6 +54,8 @@ public final class FormsTest {
         sounds(c, 4, "a", "b");
         sounds(c, 4, "aa", "aa");
         sounds(c, 4, "xcx", "xcx");
+        c.done("letters w = 'xyz'; sound w > 'k';", 2);
+        sounds(c, 4, "xwyzt", "kwkkt");
         c.done("tongue f; sound 'aa' > 'a';", 2);
         // It goes on behind what it has rewritten, and each rule goes over the word once.
         sounds(c, 5, "aaaaa", "aaa");

@@ -70,6 +70,10 @@ public final class MeaningTest {
         means("(\\f.f(f))(\\x.\\y.x(y))", "\\v1.\\v2.v1(v2)");
         means("\\x.\\x.x", "\\v1.\\v2.v2");
         means("\\x.(\\x.x)(x)", "\\v1.v1");
+        Check d = new Check("names of another term");
+        d.done("kind n; fun a : > n; fun b : > n; mean a = \\x.\\y.x; mean b = x(y);", 5);
+        plant(d, "b");
+        d.gives("mean", d.x.mean(0), "x(y)");
         Check c = new Check("arguments are not caught");
         c.done("kind n; fun a : > n; fun f : n > n; mean a = x; mean f = \\x.1(x);", 5);
         c.tape("f(a)");
@@ -146,6 +150,20 @@ public final class MeaningTest {
         c.givesNone("307 nodes on the way", c.x.mean(0), -1);
         c.due("tree", plant(c, "h(k(" + fourteen + "))"), 29);
         c.gives("the outermost comes first", c.x.mean(0), "y");
+        String thirteen = "a";
+        for (int i = 1; i < 13; i++) {
+            thirteen = "g(a," + thirteen + ")";
+        }
+        // 149 nodes twice and one more for what is applied.
+        String most = "k(" + Check.times("f(", 7) + thirteen + Check.times(")", 7) + ")";
+        c.due("tree", plant(c, most), 33);
+        c.due("299 nodes", c.x.mean(0) > 0 ? 1 : 0, 1);
+        c.due("tree", plant(c, "f(" + most + ")"), 34);
+        c.due("300 nodes", c.x.mean(0) > 0 ? 1 : 0, 1);
+        c.due("tree", plant(c, "f(f(" + most + "))"), 35);
+        c.givesNone("301 nodes", c.x.mean(0), -1);
+        c.due("tree", plant(c, "g(" + most + ",a)"), 35);
+        c.givesNone("much more behind it", c.x.mean(0), -1);
     }
 
     private static int plant(Check c, String tree) {

@@ -108,6 +108,8 @@ public final class ModuleTest {
         c.done("fun f0 : > n; fun f4 : n s n s > n cost 10000;", 2);
         c.wrongAt("fun ^f0 ?", 4);
         c.wrongAt("fun f ^> n;", 1);
+        c.wrongAt("fun f ^kind zz;", 1);
+        c.wrongAt("fun f : n ^; kind zz;", 1);
         c.wrongAt("fun f : n s n s ^n > n;", 5);
         c.wrongAt("fun f : n s n s ^zz > n;", 5);
         c.wrongAt("fun f : n ^zz > n;", 5);
@@ -152,6 +154,9 @@ public final class ModuleTest {
         c.wrongAt("feature f8 = ^a7 b8;", 4);
         c.due("features", c.x.count(0, 8), 8);
         c.due("values", c.x.count(0, 9), 20);
+        c.done("pattern p { a a1 a2 a3 a4 a5 a6 a7 = 1 };", 1);
+        c.wrongAt("pattern q { a a1 a2 a3 a4 a5 a6 a7 ^b7 = 1 };", 5);
+        c.wrongAt("pattern q { a a1 a2 a3 a4 a5 a6 a7 ^zz = 1 };", 5);
         // Another TONGUE has VALUES of its own.
         c.done("tongue u; feature f = a b;", 2);
     }
@@ -286,6 +291,7 @@ public final class ModuleTest {
         c.wrongAt("lin ^w = 1;", 5);
         c.wrongAt("lin ^z = 1;", 5);
         c.wrongAt("lin g ^1 2;", 1);
+        c.wrongAt("lin g ^kind zz;", 1);
         c.wrongAt("lin g = ^;", 1);
         c.wrongAt("lin g = ^a;", 1);
         c.wrongAt("lin g = 1 ^0;", 5);

@@ -90,6 +90,9 @@ public final class TapeTest {
             calls[i].answer();
             c.refuses("end after call " + number + " of what is wrong", () -> c.x.end(1));
         }
+        c.tape("kind zz;");
+        c.due("module", c.x.module(), 1);
+        c.refuses("end after a module that was done", () -> c.x.end(1));
     }
 
     private static void throwingLeavesTheTape() {

@@ -158,6 +158,18 @@ public final class TreeTest {
             c.gives("t " + i, c.x.say(0, 0, i), due[i]);
         }
         c.givesNone("t 16", c.x.say(0, 0, 16), -1);
+        // A cheap OPTION that comes later takes the place with its own VALUES.
+        c.done("fun k : n > s; lin k = 'k' 1[i]; fun m : n > s; lin m = 'm' 1[j];", 4);
+        c.tape("m(x)");
+        c.x.tree(1);
+        c.gives("m 0", c.x.say(0, 1, 0), "m cj");
+        c.gives("m 1", c.x.say(0, 1, 1), "m aj");
+        c.givesNone("m 2", c.x.say(0, 1, 2), -1);
+        c.tape("k(x)");
+        c.x.tree(1);
+        c.gives("k 0", c.x.say(0, 1, 0), "k ci");
+        c.gives("k 1", c.x.say(0, 1, 1), "k ai");
+        c.givesNone("k 2", c.x.say(0, 1, 2), -1);
         c.tape("t(y,y)");
         c.x.tree(0);
         // The first ITEM's argument changes slowest, also where it is the second argument.
@@ -212,6 +224,14 @@ public final class TreeTest {
         plant(c, 0, eight);
         c.gives("199 bytes", c.x.say(0, 0, 0), Check.times(x + " ", 7) + x);
         plant(c, 0, "u(x," + Check.times("t(x,", 6) + "x" + Check.times(")", 7));
+        c.givesNone("201 bytes", c.x.say(0, 0, 0), -1);
+        c.done("fun w : n n > n; lin w = 1 'zzzz' 2; fun o : > n; pattern one { = 1 }; word o one 'abcdefghijkl';", 5);
+        // Seven words of 24 letters, one of 12, a z of 4 and eight blanks are 192 bytes; eight more are 200.
+        c.done("fun e : n > n; lin e = 'abcdefg' 1; fun i : n > n; lin i = 'abcdefgh' 1;", 4);
+        String said = "abcdefghijkl zzzz " + Check.times(x + " ", 6) + x;
+        plant(c, 0, "e(w(o," + Check.times("t(x,", 6) + "x" + Check.times(")", 8));
+        c.gives("200 bytes", c.x.say(0, 0, 0), "abcdefg " + said);
+        plant(c, 0, "i(w(o," + Check.times("t(x,", 6) + "x" + Check.times(")", 8));
         c.givesNone("201 bytes", c.x.say(0, 0, 0), -1);
         plant(c, 0, "u(y," + Check.times("t(x,", 6) + "x" + Check.times(")", 7));
         c.gives("the shorter one alone", c.x.say(0, 0, 0), "abcdefghijkabcdefghijk z " + Check.times(x + " ", 6) + x);
