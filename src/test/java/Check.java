@@ -1,4 +1,7 @@
-/** A house with what the tests need to talk to it: texts in and out, and answers held against those that are due. */
+/**
+ * A house with what the tests need to talk to it: texts in and out, and answers held against those that are due. A house is good
+ * for 512 calls, each piece of 20 bytes in and each byte out is one: tests with many texts need several houses.
+ */
 final class Check {
     interface Call {
         long answer();
@@ -79,8 +82,8 @@ final class Check {
 
     String out() {
         StringBuilder text = new StringBuilder();
-        for (int i = 0; x.out(i) >= 0; i++) {
-            text.append((char) x.out(i));
+        for (int c = x.out(0); c >= 0; c = x.out(text.length())) {
+            text.append((char) c);
         }
         return text.toString();
     }

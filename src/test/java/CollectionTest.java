@@ -77,7 +77,8 @@ public final class CollectionTest {
     }
 
     private static void hundred() {
-        Check c = Check.full("hundred");
+        Check c = new Check("hundred");
+        c.done("kind n; fun dog : > n; tongue en; pattern p { = 1 }; word dog p 'dog';", 5);
         String long24 = Check.times("dog ", 24);
         for (int i = 1; i <= 99; i++) {
             collect(c, 0, "dog", i);

@@ -8,6 +8,7 @@ public final class FormsTest {
         analyses();
         guesses();
         formsFollowNewSounds();
+        manyForms();
         Check.finish();
     }
 
@@ -155,6 +156,10 @@ public final class FormsTest {
         c.due("how many forms", c.x.guessed(0, 1), 1);
         c.due("of how many", c.x.guessed(0, 2), 4);
         c.due("letters", c.x.guessed(1, 3), 4);
+        c.done("word f unused 'k'; word f unused 'qq';", 2);
+        c.tape("bosts");
+        c.due("a short form has no long ending", c.x.guess(0), 2);
+        c.due("of how many", c.x.guessed(0, 2), 4);
         c.tape("t");
         c.due("guess by one", c.x.guess(0), 1);
         c.due("pattern", c.x.guessed(0, 0), 0);
@@ -168,6 +173,34 @@ public final class FormsTest {
         c.due("guess of no word", c.x.guess(0), -3);
         c.due("none is left", c.x.guessed(0, 0), -1);
         c.refuses("guess of no tongue", () -> c.x.guess(-1));
+    }
+
+    private static void manyForms() {
+        Check c = new Check("many forms");
+        c.done("kind n; fun f : > n; tongue t; feature p = a1 a2 a3 a4 a5 a6; feature q = b1 b2 b3 b4;", 5);
+        StringBuilder cells = new StringBuilder();
+        for (int i = 0; i < 24; i++) {
+            cells.append(i == 0 ? "" : ", ").append("a" + (i % 6 + 1) + " b" + (i / 6 + 1) + " = 1 + '" + (char) ('a' + i) + "'");
+        }
+        c.done("pattern p { " + cells + " };", 1);
+        StringBuilder words = new StringBuilder();
+        for (int i = 0; i < 64; i++) {
+            words.append("word f p '" + (char) ('a' + i % 8) + (char) ('a' + i / 8) + "';");
+        }
+        c.done(words.toString(), 64);
+        for (int i = 0; i < 64; i += 3) {
+            int cell = i * 5 % 24;
+            c.tape("" + (char) ('a' + i % 8) + (char) ('a' + i / 8) + (char) ('a' + cell));
+            c.due("analyse", c.x.analyse(0), 1);
+            c.due("word", c.x.analysis(0, 0), i);
+            c.due("cell", c.x.analysis(0, 1), cell);
+            c.due("value of p", c.x.analysis(0, 4), cell % 6 + 1);
+            c.due("value of q", c.x.analysis(0, 5), cell / 6 + 1);
+            c.due("no third feature", c.x.analysis(0, 6), 0);
+        }
+        c.tape("zzx");
+        c.due("guess by x", c.x.guess(0), 1);
+        c.due("forms", c.x.guessed(0, 1), 64);
     }
 
     private static void formsFollowNewSounds() {

@@ -17,6 +17,7 @@ public final class ModuleTest {
         wordsOfTheirOwn();
         numbers();
         counts();
+        everyBeginning();
         Check.finish();
     }
 
@@ -77,6 +78,8 @@ public final class ModuleTest {
         c.due("features of t", c.x.count(0, 8), 1);
         c.due("cell", c.x.cell(0, 0, 0), 1);
         c.due("its letter", c.x.out(0), 'a');
+        c.refuses("u was not made", () -> c.x.count(1, 8));
+        c.refuses("u was not made", () -> c.x.sounds(1));
         // A tongue that was not made is another one when it is made.
         c.done("tongue u;", 1);
         c.due("features of u", c.x.count(1, 8), 0);
@@ -121,17 +124,25 @@ public final class ModuleTest {
         c.wrongAt("fun f : n > s cost ^n;", 1);
         c.wrongAt("fun f : n > s cost ^;", 1);
         c.wrongAt("fun f : ^f", 5);
-        for (int i = 2; i < 32; i++) {
-            c.done("kind k" + i + ";", 1);
+        Check d = new Check("32 kinds and 96 funs");
+        StringBuilder kinds = new StringBuilder();
+        for (int i = 0; i < 32; i++) {
+            kinds.append("kind k" + i + ";");
         }
-        c.wrongAt("^kind k32;", 2);
-        c.wrongAt("kind ^k31;", 4);
-        c.wrongAt("kind k32 ^?", 1);
-        for (int i = 2; i < 96; i += 2) {
-            c.done("fun g" + i + " : > n; fun h" + i + " : > n;", 2);
+        d.done(kinds.toString(), 32);
+        d.wrongAt("^kind k32;", 2);
+        d.wrongAt("kind ^k31;", 4);
+        d.wrongAt("kind k32 ^?", 1);
+        for (int i = 0; i < 3; i++) {
+            StringBuilder funs = new StringBuilder();
+            for (int k = 0; k < 32; k++) {
+                funs.append("fun f" + (32 * i + k) + ":>k" + k + ";");
+            }
+            d.done(funs.toString(), 32);
         }
-        c.wrongAt("  ^fun x : > n;", 2);
-        c.due("funs", c.x.count(0, 2), 96);
+        d.wrongAt("  ^fun x : > k0;", 2);
+        d.wrongAt("fun ^f95 : > k0;", 4);
+        d.due("funs", d.x.count(0, 2), 96);
     }
 
     private static void features() {
@@ -462,6 +473,29 @@ public final class ModuleTest {
         c.refuses("number 5 of no tongue", () -> c.x.number(-1, 5));
         c.refuses("number 6", () -> c.x.number(0, 6));
         c.refuses("number -1", () -> c.x.number(0, -1));
+    }
+
+    private static void everyBeginning() {
+        String[] statements = {"tongue t ;", "kind k ;", "fun f : n a d v > s cost 3 ;", "letters l = 'ab' ;",
+            "sound 'a' > 'b' / # hiss 'c' _ # 'd' hiss ;", "pattern p of many { sg = 1 + 'a' + 2 , pl = - , = 3 } ;",
+            "word dog reg 'a' 'b' 'c' has sg cost 3 ;", "lin det = 1 [ pl ] 'a' 2 , agree 1 2 num , give 1 num , give pl cost 3 ;",
+            "mean fly = ( \\ x . x ( a , b ) ( c ) ) ( d ) ;", "thing t ;", "fact p rex tom ;"};
+        for (String statement : statements) {
+            Check c = Check.full("every beginning of " + statement);
+            c.done("tongue en; pattern many { = 1 };", 2);
+            String[] tokens = statement.split(" ");
+            StringBuilder beginning = new StringBuilder();
+            for (int i = 0; i < tokens.length - 1; i++) {
+                beginning.append(tokens[i]).append(" ");
+                c.tape(beginning + "kind zz;");
+                c.due(beginning + "kind zz; is wrong", c.x.module() < 0 ? 1 : 0, 1);
+                c.tape(beginning.toString());
+                c.due(beginning + "ends too soon", c.x.module(), -1 - beginning.length());
+                c.due("by rule 1", c.x.rule(), 1);
+            }
+            c.due("kinds", c.x.count(0, 1), 7);
+            c.done("tongue en; " + statement, 2);
+        }
     }
 
     private static void counts() {

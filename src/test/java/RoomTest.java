@@ -14,7 +14,7 @@ public final class RoomTest {
         TongueHouse x = new TongueHouse();
         c.due("bytes of a new object", beans.getThreadAllocatedBytes(thread) - begin < MOST_BYTES ? 1 : 0, 1);
         begin = beans.getThreadAllocatedBytes(thread);
-        for (int i = 0; i < 30; i++) {
+        for (int i = 0; i < 24; i++) {
             // "the dog runs dogs a ", "the dog and the dog ", "tongue t; lin det=1;"
             c.x.feed(0x74686520, 0x646f6720, 0x72756e73, 0x20646f67, 0x73206120);
             c.x.mend(0, 6);
@@ -32,7 +32,7 @@ public final class RoomTest {
             c.x.truth(0);
             c.x.show(0);
         }
-        c.due("bytes of 450 calls", beans.getThreadAllocatedBytes(thread) - begin < MOST_BYTES ? 1 : 0, 1);
+        c.due("bytes of 360 calls", beans.getThreadAllocatedBytes(thread) - begin < MOST_BYTES ? 1 : 0, 1);
         c.due("it still answers", x.count(0, 0), 0);
         Check.finish();
     }

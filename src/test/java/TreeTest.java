@@ -85,16 +85,16 @@ public final class TreeTest {
         String deep = Check.times("mod(big,", 29) + "dog" + Check.times(")", 29);
         c.due("59 funs", plant(c, 0, deep), 59);
         c.due("60 funs", plant(c, 0, "bare(" + deep + ")"), 60);
-        c.gives("show", c.x.show(0), "bare(" + deep + ")");
+        c.due("show", c.x.show(0), deep.length() + 6);
         String sixtyOne = Check.times("mod(big,", 30) + "dog" + Check.times(")", 30);
         c.due("61 funs", plant(c, 1, sixtyOne), -1 - 8 * 30);
         c.givesNone("no tree", c.x.show(1), -1);
         Check d = new Check("sixty deep");
-        d.done("kind n; fun abcdefgh : > n; fun ijklmnop : n > n;", 3);
-        String chain = Check.times("ijklmnop(", 59) + "abcdefgh" + Check.times(")", 59);
+        d.done("kind n; fun a : > n; fun f : n > n;", 3);
+        String chain = Check.times("f(", 59) + "a" + Check.times(")", 59);
         d.due("sixty deep", plant(d, 0, chain), 60);
         d.gives("show", d.x.show(0), chain);
-        d.due("61 deep", plant(d, 1, Check.times("ijklmnop(", 60) + "abcdefgh"), -1 - 9 * 60);
+        d.due("61 deep", plant(d, 1, Check.times("f(", 60) + "a"), -1 - 2 * 60);
     }
 
     private static void same() {
@@ -225,14 +225,16 @@ public final class TreeTest {
         c.gives("199 bytes", c.x.say(0, 0, 0), Check.times(x + " ", 7) + x);
         plant(c, 0, "u(x," + Check.times("t(x,", 6) + "x" + Check.times(")", 7));
         c.givesNone("201 bytes", c.x.say(0, 0, 0), -1);
-        c.done("fun w : n n > n; lin w = 1 'zzzz' 2; fun o : > n; pattern one { = 1 }; word o one 'abcdefghijkl';", 5);
+        Check d = new Check("200 bytes");
+        d.done("kind n; fun x : > n; fun t : n n > n; tongue g; pattern p { = 1 + 1 }; word x p 'abcdefghijkl'; lin t = 1 2;", 7);
+        d.done("fun w : n n > n; lin w = 1 'zzzz' 2; fun o : > n; pattern one { = 1 }; word o one 'abcdefghijkl';", 5);
         // Seven words of 24 letters, one of 12, a z of 4 and eight blanks are 192 bytes; eight more are 200.
-        c.done("fun e : n > n; lin e = 'abcdefg' 1; fun i : n > n; lin i = 'abcdefgh' 1;", 4);
+        d.done("fun e : n > n; lin e = 'abcdefg' 1; fun i : n > n; lin i = 'abcdefgh' 1;", 4);
         String said = "abcdefghijkl zzzz " + Check.times(x + " ", 6) + x;
-        plant(c, 0, "e(w(o," + Check.times("t(x,", 6) + "x" + Check.times(")", 8));
-        c.gives("200 bytes", c.x.say(0, 0, 0), "abcdefg " + said);
-        plant(c, 0, "i(w(o," + Check.times("t(x,", 6) + "x" + Check.times(")", 8));
-        c.givesNone("201 bytes", c.x.say(0, 0, 0), -1);
+        plant(d, 0, "e(w(o," + Check.times("t(x,", 6) + "x" + Check.times(")", 8));
+        d.gives("200 bytes", d.x.say(0, 0, 0), "abcdefg " + said);
+        plant(d, 0, "i(w(o," + Check.times("t(x,", 6) + "x" + Check.times(")", 8));
+        d.givesNone("201 bytes", d.x.say(0, 0, 0), -1);
         plant(c, 0, "u(y," + Check.times("t(x,", 6) + "x" + Check.times(")", 7));
         c.gives("the shorter one alone", c.x.say(0, 0, 0), "abcdefghijkabcdefghijk z " + Check.times(x + " ", 6) + x);
         c.givesNone("no other", c.x.say(0, 0, 1), -1);
