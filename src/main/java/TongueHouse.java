@@ -2237,8 +2237,9 @@ public final class TongueHouse {
             int n = sentence.words;
             for (int size = 1; size <= n && !over; size++) {
                 for (int at = 0; at + size <= n && !over; at++) {
+                    int found = size == 1 ? t.forms.findSame(sentence.bytes, sentence.start[at], sentence.len[at]) : 0;
                     for (int k = 0; k < store.kinds.size && !over; k++) {
-                        fillSpan(at, size, k);
+                        fillSpan(at, size, k, found);
                     }
                 }
             }
@@ -2256,7 +2257,7 @@ public final class TongueHouse {
 
         private void orderLins() {
             int n = 0;
-            for (int k = 0; k < MOST_KINDS; k++) {
+            for (int k = 0; k < store.kinds.size; k++) {
                 kindLins[k] = n;
                 for (int i = 0; i < tongue.linCount; i++) {
                     if (store.funKind[tongue.lins[i].fun] == k) {
@@ -2264,15 +2265,13 @@ public final class TongueHouse {
                     }
                 }
             }
-            kindLins[MOST_KINDS] = n;
+            kindLins[store.kinds.size] = n;
         }
 
-        private void fillSpan(int at, int size, int kind) {
+        private void fillSpan(int at, int size, int kind, int found) {
             spanFirst = nodes;
             spanEnd = at + size;
-            if (size == 1) {
-                layWord(at, kind);
-            }
+            layForms(kind, found);
             for (int i = kindLins[kind]; i < kindLins[kind + 1] && !over; i++) {
                 Lin lin = tongue.lins[linOrder[i]];
                 if (lin.size <= size) {
@@ -2284,9 +2283,8 @@ public final class TongueHouse {
             nodeCount[span] = nodes - spanFirst;
         }
 
-        private void layWord(int at, int kind) {
-            int n = tongue.forms.findSame(text.bytes, text.start[at], text.len[at]);
-            for (int i = 0; i < n && !over; i++) {
+        private void layForms(int kind, int found) {
+            for (int i = 0; i < found && !over; i++) {
                 int id = tongue.forms.found[i];
                 if (store.funKind[tongue.wordFun(id / MOST_CELLS)] == kind) {
                     putWay(id, tongue.formValues(id), 0);
