@@ -1626,7 +1626,8 @@ public final class TongueHouse {
                 names[n++] = tape.name;
                 tape.advance();
             }
-            if (n == 1) {
+            // Only the ; tells that the VALUE was just one: another TOKEN that can't stand here is wrong itself.
+            if (n == 1 && tape.type == ';') {
                 return wrong(NONE_SUCH, only);
             }
             if (!closes(tongue.features.isFull())) {

@@ -150,6 +150,15 @@ public final class ModuleTest {
         c.done("tongue t; feature f = a b c d e g;", 2);
         c.wrongAt("feature ^f = x y;", 4);
         c.wrongAt("feature h = ^x;", 5);
+        c.wrongAt("feature h = x ^5;", 1);
+        c.wrongAt("feature h = x ^= y;", 1);
+        c.wrongAt("feature h = x ^'y';", 1);
+        c.wrongAt("feature h = x^", 1);
+        c.wrongAt("feature h = x   ^", 1);
+        c.wrongAt("feature h = x ^?;", 1);
+        c.wrongAt("feature h = x^?", 1);
+        c.wrongAt("feature h = x ^'y;", 1);
+        c.wrongAt("feature h = ^x ; ?", 5);
         c.wrongAt("feature h = ^;", 1);
         c.wrongAt("feature h ^;", 1);
         c.wrongAt("feature h = x ^a;", 4);
