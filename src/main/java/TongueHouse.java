@@ -2654,7 +2654,6 @@ public final class TongueHouse {
     private static final class Sayer {
         private final Store store;
         private Tongue tongue;
-        private int[] tree;
         private final int[] child = new int[TREE_ROOM * MOST_ARGS];
         private final int[] options = new int[TREE_ROOM];
         private final int[] cost = new int[TREE_ROOM * MOST_OPTIONS];
@@ -2676,7 +2675,6 @@ public final class TongueHouse {
         /** How many OPTIONS the whole TREE has. */
         int findOptions(Tongue t, int[] funs, int size) {
             tongue = t;
-            tree = funs;
             store.findChildren(funs, size, child);
             for (at = size - 1; at >= 0; at--) {
                 options[at] = 0;
