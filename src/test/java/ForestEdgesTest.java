@@ -19,6 +19,7 @@ public final class ForestEdgesTest {
         sixteenOfTwoArguments();
         priceThenNode();
         tooManyWays();
+        overAllWords();
         oneOrNone();
         noForestIsLeft();
         aSmallerForest();
@@ -322,6 +323,18 @@ public final class ForestEdgesTest {
         for (int i = 0; i < prices.length; i++) {
             c.due("price " + i, c.x.price(i), prices[i]);
         }
+        Check e = new Check("many nodes");
+        e.done("kind n; kind s; fun r : n s > s; fun f : n > s; fun x : > n; fun y : > n; tongue t; feature q = a b c d; pattern p { = 1 };", 9);
+        e.done("word x p 'o' has d; word y p 'o' has b; lin f = 1, give 1 q; lin r = 1 2, give 1 q;", 4);
+        for (int n = 2; n <= 12; n += 2) {
+            c.due("parse", parse(e, 1, Check.times("o ", n)), 1);
+            String rest = Check.times("r(y,", n - 2) + "f(y)" + Check.times(")", n - 2);
+            readings(e, 0, "r(y," + rest + ")");
+            e.due("nodes", e.x.count(0, 5), n * 2 + n * (n + 1));
+        }
+        c.due("parse", parse(e, 1, "o o o o"), 1);
+        // Those of the NODE with b come first, then those with d.
+        readings(e, 7, "r(y,r(x,r(x,f(x))))", "r(x,r(y,r(y,f(y))))");
         Check d = new Check("the first ITEM's rank first");
         d.done("kind n; kind s; fun w : n n > s; fun x : > n; fun y : > n; tongue t; pattern p { = 1 }; word y p 'o'; word x p 'o'; lin w = 2 1;", 10);
         d.due("parse", parse(d, 1, "o o"), 1);
@@ -347,6 +360,20 @@ public final class ForestEdgesTest {
         c.tape(Check.times("o ", 24));
         c.due("swap", c.x.swap(0, 0, 0), -1);
         c.due("trees", c.x.trees(), 0);
+    }
+
+    // A LIN over all 24 words has its arguments over any of them.
+    private static void overAllWords() {
+        Check c = new Check("over all words");
+        c.done("kind n; kind m; kind s; fun x : > n; fun y : > n; fun big : n m > m; fun one : n > m; fun w : n n m > s; fun v : m n n > s; fun all : n n > n; tongue t;", 11);
+        c.done("pattern p { = 1 }; word x p 'o'; word y p 'u'; lin big = 1 2; lin one = 1; lin w = 1 2 3; lin v = 1 2 3; lin all = 'q' 1 2 'q';", 8);
+        for (int n = 3; n <= 24; n += 3) {
+            c.due("parse", parse(c, 2, "o u " + Check.times("o ", n - 2)), 1);
+            c.due("trees", c.x.trees(), 2);
+            c.due("the first", c.x.reading(0, 0), n * 2 - 1);
+            c.due("one of them is of v", c.x.bar(5, true), 1);
+            c.due("the other is of w", c.x.bar(4, true), 0);
+        }
     }
 
     // parse: "1 if there is a TREE, 0, -1; THE FOREST is that (none, if it was not 1)"

@@ -138,6 +138,17 @@ public final class MeaningEdgesTest {
             plant(c, "o(" + some + ")");
             c.due("o: " + (twice + 5), c.x.mean(0) > 0 ? 1 : -1, twice + 5 <= 300 ? 1 : -1);
         }
+        c.done("fun r : n > n; fun w : n > n; fun v : n > n; mean r = (\\x.\\y.x(x(u)))(1); mean w = h((\\x.x(x))(1),u); mean v = \\y.h((\\x.x(x))(1),u);", 6);
+        for (int i = 4; i <= 7; i++) {
+            String some = Check.times("f(", i) + rowOf(13) + Check.times(")", i);
+            int twice = 2 * (142 + i);
+            plant(c, "r(" + some + ")");
+            c.due("r: " + (twice + 4), c.x.mean(0) > 0 ? 1 : -1, twice + 4 <= 300 ? 1 : -1);
+            plant(c, "w(" + some + ")");
+            c.due("w: " + (twice + 5), c.x.mean(0) > 0 ? 1 : -1, twice + 5 <= 300 ? 1 : -1);
+            plant(c, "v(" + some + ")");
+            c.due("v: " + (twice + 6), c.x.mean(0) > 0 ? 1 : -1, twice + 6 <= 300 ? 1 : -1);
+        }
         // What goes in the next step counts as long as it is there.
         plant(c, "z(" + rowOf(13) + ",a)");
         c.gives("300", c.x.mean(0), "p(q,r,s,\\v1.t)");

@@ -12,6 +12,7 @@ public final class SearchEdgesTest {
         eightOfAQuestion();
         whatIsNoQuestion();
         lettersAndKinds();
+        kindsOfLateWords();
         asManyHitsAsCanBe();
         whatOfAHit();
         twelveWords();
@@ -295,6 +296,17 @@ public final class SearchEdgesTest {
         ask(c, 1, "n", 3, 1);
         ask(c, 1, "* *", 3, 0, 3, 1);
         ask(c, 1, "'dogs'");
+    }
+
+    private static void kindsOfLateWords() {
+        Check c = new Check("kinds of late words");
+        c.done("kind n; kind v; fun x : > n; fun y : > v; tongue t; feature f = a1 a2 a3 a4 a5 a6; feature g = b1 b2 b3 b4; pattern one { = 1 };", 8);
+        c.done("pattern p {" + cells(0, 23, "x") + ",a6 b4=1+'z'};" + Check.times("word x one 'q';", 30), 31);
+        c.done("word y p 'o'; word x one 'm'; word y one 'k';", 3);
+        collect(c, 0, "oz m k q");
+        ask(c, 0, "n", 0, 1, 0, 3);
+        ask(c, 0, "v", 0, 0, 0, 2);
+        ask(c, 0, "v n v n", 0, 0);
     }
 
     private static void asManyHitsAsCanBe() {

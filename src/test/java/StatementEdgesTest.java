@@ -210,6 +210,7 @@ public final class StatementEdgesTest {
         c.wrongAt("fun ^f95 : > n;", 4);
         c.wrongAt("fun ^f0 : > n;", 4);
         c.due("funs", c.x.count(0, 2), 96);
+        c.wrongAt("tongue t; mean f95 = y; ^?", 1);
         c.done("tongue t; pattern p { = 1 }; word f95 p 'a'; mean f95 = x;", 4);
         c.tape("a");
         c.due("parse", c.x.parse(0, 0), 1);
@@ -217,6 +218,18 @@ public final class StatementEdgesTest {
         c.due("bar the last", c.x.bar(95, true), 0);
         c.refuses("bar one more", () -> c.x.bar(96, true));
         c.due("not any more", c.x.bar(95, false), 1);
+        c.due("bar the last again", c.x.bar(95, true), 0);
+        c.tape("a");
+        c.due("parse", c.x.parse(0, 0), 1);
+        c.due("a parse bars none", c.x.trees(), 1);
+        // A module that is wrong takes no meaning of the last one, and gives it none.
+        c.wrongAt("mean f94 = x; ^?", 1);
+        c.tape("f95");
+        c.x.tree(0);
+        c.gives("mean", c.x.mean(0), "x");
+        c.tape("f94");
+        c.x.tree(0);
+        c.givesNone("no mean", c.x.mean(0), -2);
     }
 
     // "Its price is the NUMBER, or 0 (above 10000: 5, so of all)."
@@ -392,12 +405,12 @@ public final class StatementEdgesTest {
     private static void patternsOfOthers() {
         Check c = new Check("patterns of others");
         c.done("kind n; fun x : > n; tongue t; feature f = a b; feature g = c d;", 5);
-        c.done("pattern p { a c = 1 + 'p', = 1 + 'q', d = 1 + 'r', b c = 1 + 's' }; pattern other { = 1 + 'o' };", 2);
+        c.done("pattern p { a c = 1 + 'p', = 1 + 'q', d = 1 + 'r', b c = 1 + 's' }; pattern other { = 1 + 'o', b = -, a = -, c = -, d = -, a d = - };", 2);
         c.done("pattern k of p { c a = 1 + 'k', b = 1 + 'l', a = -, c b = 1 + 'm', b = 1 + 'n' }; pattern m of k { = 1 };", 2);
         c.done("word x p 'w'; word x k 'w'; word x other 'w'; word x m 'w';", 4);
         cells(c, 0, "wp", "wq", "wr", "ws");
         cells(c, 1, "wk", "wq", "wr", "wm", "wn", null);
-        cells(c, 2, "wo");
+        cells(c, 2, "wo", null, null, null, null, null);
         cells(c, 3, "wk", "w", "wr", "wm", "wn", null);
         // VALUES of a CELL that took a place are the same as ever.
         c.tape("wk");
@@ -534,7 +547,7 @@ public final class StatementEdgesTest {
         c.done("kind n; fun x : > n; fun y : > n; tongue t; pattern p { = 1 };" + Check.times("word x p 'a';", 60), 65);
         c.done(Check.times("word x p 'a';", 3), 3);
         c.wrongAt("word x p 'b'; ^word x p 'c';", 2);
-        c.done("word y p 'z';", 1);
+        c.done("word y p 'z' cost 7;", 1);
         c.wrongAt("word x p 'b' has^", 1);
         c.wrongAt("^word x p 'b';", 2);
         c.due("words", c.x.count(0, 13), 64);
@@ -545,6 +558,11 @@ public final class StatementEdgesTest {
         c.tape("z");
         c.due("analyse", c.x.analyse(0), 1);
         c.due("word", c.x.analysis(0, 0), 63);
+        c.due("fun", c.x.analysis(0, 2), 1);
+        c.due("price", c.x.analysis(0, 3), 7);
+        c.tape("z");
+        c.due("parse", c.x.parse(0, 0), 1);
+        c.due("price", c.x.price(0), 7);
         c.tape("b");
         c.due("analyse", c.x.analyse(0), 0);
         c.done("tongue u; pattern p { = 1 }; word x p 'a';", 3);

@@ -143,6 +143,9 @@ public final class TextEdgesTest {
         c.due("another name", c.x.number(0, 2), -1);
         cut(c, "fun q : > n cost 10000;", 22);
         c.due("a number", c.x.module(), -23);
+        cut(c, "fun q : > n cost 10001;", 21);
+        c.due("a number without its last digit", c.x.module(), -22);
+        c.due("is not too much", c.x.rule(), 1);
         cut(c, "tongue en; letters q = 'ab';", 26);
         c.due("letters without their end", c.x.module(), -24);
         cut(c, "tongue en; letters q = 'ab';", 25);

@@ -205,6 +205,16 @@ public final class TreeEdgesTest {
         says(c, "x", "ka", "kc", "m", "na", "nc");
         says(c, "y", "la", "lc", "o", "ka", "kc");
         says(c, "z");
+        // A WORD of 24 CELLS has no form of the WORD behind it.
+        Check d = new Check("24 cells");
+        d.done("kind n; fun x : > n; fun y : > n; tongue t; feature f = a1 a2 a3 a4 a5 a6; feature g = b1 b2 b3 b4; pattern one { = 1 };", 7);
+        StringBuilder cells = new StringBuilder("a1 b1=1");
+        for (int i = 1; i < 24; i++) {
+            cells.append(", a" + (i % 6 + 1) + " b" + (i / 6 + 1) + "=" + (i == 23 ? "1+'z'" : "-"));
+        }
+        d.done("pattern p {" + cells + "}; word x p 'o'; word y one 'u'; word x p 'm'; word y one 'w';", 5);
+        says(d, "x", "o", "oz", "m", "mz");
+        says(d, "y", "u", "w");
     }
 
     // "for each LIN, the OPTIONS of its arguments put together as in 4 (the argument of the first ITEM changing slowest)"
