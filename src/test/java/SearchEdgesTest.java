@@ -24,6 +24,7 @@ public final class SearchEdgesTest {
         aThousandChanges();
         aThousandOfOneWord();
         asSoonAsAParseFails();
+        triesOfAllParses();
         theForestOfAMend();
         Check.finish();
     }
@@ -558,6 +559,38 @@ public final class SearchEdgesTest {
         d.due("parse", d.x.parse(0, 1), -1);
         mends(d, 1, "e " + Check.times("o ", 10), -1, "");
         d.due("no forest", d.x.trees(), 0);
+    }
+
+    // "400000 TRIES (.. of a mend(), of all its parses so far): -1"
+    private static void triesOfAllParses() {
+        Check c = new Check("tries of all parses");
+        c.done("kind n; kind k; kind u; kind s; kind z; fun x : > n; fun e : > k; fun y : n n n n > s; fun j : n > z; fun v : k > s; tongue g; feature f = a1 a2 a3 a4 a5 a6;", 12);
+        c.done("feature g = b1 b2 b3 b4; feature h = c1 c2; feature r = x1 x2; pattern ef { x1 = 'e', x2 = 'f' };", 4);
+        c.done("pattern p19 {" + sameForm(0, 19) + "}; pattern p20 of p19 {" + sameForm(19, 20) + "}; pattern p23 of p20 {" + sameForm(20, 23) + "};", 3);
+        c.done("word x p20 'a'; word x p20 'b'; word x p19 'c'; word x p23 'd'; word e ef 'z';", 5);
+        // What the first two must have makes them never agree; it is only seen when all four lie.
+        c.done("lin y = 1[c1] 2[c2] 3 4, agree 1 2 h; lin j = 'a' 'b' 1; lin v = 'a' 'b' 'c' 'd' 1[x2];", 3);
+        // Of y over a to d: 20 + 20*20 + 20*20*19 + 20*20*19*23; over b to e: 20 + 20*19 + 20*19*23; over all: 20 + 20*20 + 20*20*19.
+        // Of j: 19. Of v: 1. They are 200000, so that two parses may be, and a third may not.
+        mends(c, 3, "a b c d e", 1, "a b c d f");
+        mends(c, 3, "a b c d f", 0, "a b c d f");
+        mends(c, 3, "a b c d e", 1, "a b c d f");
+        // One more, of the second parse alone.
+        c.done("fun q : > u; pattern one { = 1 }; word q one 'f'; fun w : u > z; lin w = 'd' 1;", 5);
+        mends(c, 3, "a b c d e", -1, "");
+        c.due("no forest", c.x.trees(), 0);
+        c.due("no nodes", c.x.count(0, 5), 0);
+        c.tape("a b c d f");
+        c.due("a parse has but its own", c.x.parse(0, 3), 1);
+        mends(c, 3, "a b c d f", 0, "a b c d f");
+    }
+
+    private static String sameForm(int from, int to) {
+        StringBuilder all = new StringBuilder();
+        for (int i = from; i < to; i++) {
+            all.append(i == from ? "" : ",").append("a" + (i % 6 + 1) + " b" + (i / 6 + 1) + "=1");
+        }
+        return all.toString();
     }
 
     // "THE FOREST is that of what was mended."
