@@ -1364,7 +1364,7 @@ public final class TongueHouse {
                 return readTongue();
             }
             if (word == KIND) {
-                return readKind();
+                return readNewName(store.kinds);
             }
             if (word == FUN) {
                 return readFun();
@@ -1373,7 +1373,7 @@ public final class TongueHouse {
                 return readMean();
             }
             if (word == THING) {
-                return readThing();
+                return readNewName(store.things);
             }
             if (word == FACT) {
                 return readFact();
@@ -1504,29 +1504,17 @@ public final class TongueHouse {
             return true;
         }
 
-        private boolean readKind() {
-            if (!needNew(store.kinds)) {
+        /** A KIND or a THING: nothing but a NAME that is not there yet. */
+        private boolean readNewName(Names among) {
+            if (!needNew(among)) {
                 return false;
             }
             long name = tape.name;
             tape.advance();
-            if (!closes(store.kinds.isFull())) {
+            if (!closes(among.isFull())) {
                 return false;
             }
-            store.kinds.put(name);
-            return true;
-        }
-
-        private boolean readThing() {
-            if (!needNew(store.things)) {
-                return false;
-            }
-            long name = tape.name;
-            tape.advance();
-            if (!closes(store.things.isFull())) {
-                return false;
-            }
-            store.things.put(name);
+            among.put(name);
             return true;
         }
 
